@@ -22,10 +22,7 @@ public final class ColumnDecider {
     private static final int EITHER = 1;
     private static final int IF = 2;
 
-    private final char[] text = new char[TEXT_MOST];
-    private int length;
-    private final Plan plan = new Plan();
-    private final Reader reader = new Reader(text, plan);
+    private final Reader reader = new Reader();
     private final Builder builder = new Builder();
     private final Machine machine = new Machine();
     private final Machine[] kept = new Machine[PLACES];
@@ -48,14 +45,14 @@ public final class ColumnDecider {
                 more++;
             }
         }
-        if (length + more > TEXT_MOST) {
+        if (reader.length + more > TEXT_MOST) {
             return false;
         }
         for (int i = 0; i < BYTES; i++) {
             int c = byteOf(eight, i);
             if (c != 0) {
-                text[length] = (char) c;
-                length++;
+                reader.text[reader.length] = (char) c;
+                reader.length++;
             }
         }
         return true;
@@ -66,15 +63,15 @@ public final class ColumnDecider {
     }
 
     public void clear() {
-        length = 0;
+        reader.length = 0;
     }
 
     public int compile() throws IllegalArgumentException, IllegalStateException {
         // Set first: what throws below leaves no machine and nothing formed.
         machine.states = 0;
         formedInAll = 0;
-        reader.read(length);
-        builder.build(plan, machine);
+        reader.read();
+        builder.build(reader.plan, machine);
         formedInAll = builder.formed;
         return machine.states;
     }
@@ -350,10 +347,9 @@ public final class ColumnDecider {
         }
     }
 
-    /** Reads the text, sign by sign, into a plan, or finds its fault. */
+    /** Holds the text and reads it, sign by sign, into a plan, or finds its fault. */
     private static final class Reader {
         private static final int END = 0;
-        // Added to the first character of a sign of two.
         private static final int TWO = 256;
         private static final int IMPLIES = TWO + '=';
         private static final int LESS_EQUAL = TWO + '<';
@@ -361,20 +357,15 @@ public final class ColumnDecider {
         private static final int UNEQUAL = TWO + '!';
         private static final int DIGITS_MOST = 4;
 
+        final char[] text = new char[TEXT_MOST];
+        int length;
         int place;
-        private final char[] text;
-        private final Plan plan;
-        private int length;
+        final Plan plan = new Plan();
         private int at;
+        // A sign's character, or that of its first and TWO.
         private int sign;
 
-        Reader(char[] text, Plan plan) {
-            this.text = text;
-            this.plan = plan;
-        }
-
-        void read(int textLength) {
-            length = textLength;
+        void read() {
             plan.empty();
             goTo(0);
             formula(0);
