@@ -9,15 +9,24 @@ final class Check {
 
     private static int wrong;
     private static int asked;
+    private static int sentences;
+    private static String sentence = "";
 
     private Check() {
+    }
+
+    /** Names the document's sentence that the answers from here on are about. */
+    static void sentence(String words) {
+        sentence = words;
+        sentences++;
     }
 
     static void due(String what, long got, long want) {
         asked++;
         if (got != want) {
             wrong++;
-            System.out.println(what + " answered " + told(got) + ", due is " + told(want));
+            String about = sentence.isEmpty() ? "" : " [" + sentence + "]";
+            System.out.println(what + " answered " + told(got) + ", due is " + told(want) + about);
         }
     }
 
@@ -76,7 +85,8 @@ final class Check {
     }
 
     static void end() {
-        System.out.println(asked + " answers looked at, " + wrong + " not as due");
+        String about = sentences == 0 ? "" : ", of " + sentences + " sentences";
+        System.out.println(asked + " answers looked at" + about + ", " + wrong + " not as due");
         if (wrong != 0) {
             System.exit(1);
         }
