@@ -293,6 +293,9 @@ public final class MachineBoundariesTest {
         large("a-91b<=0");
         made("166a-20b=46", 96, 191);
         large("128a-62b=22");
+        // A search found none by : with 96 or 97 states and few enough rough ones.
+        made("a:93", 95, 950);
+        large("a:127");
     }
 
     private static void pairs(String[][] parts, int states, boolean fits) {
