@@ -427,6 +427,10 @@ public final class TextBoundariesTest {
             fault(text, text.length());
             fault(text + "     ", text.length() + 5);
         }
+        // A sign is what stands there, not the longer one that might have come of it.
+        fault("a!", 1);
+        fault("a=1=", 3);
+        fault("a=1 = ", 4);
     }
 
     private static void oneMoreOpenIsToldAtItsSign() {
