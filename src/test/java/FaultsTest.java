@@ -4,7 +4,7 @@ import java.util.Set;
 
 /** Promises 4 and 5: faults and their places, by hand and against all readings of random texts. */
 public final class FaultsTest {
-    private static final int FINE = -1;
+    static final int FINE = -1;
 
     private static void fault(String text, int place) {
         ColumnDecider x = new ColumnDecider();
@@ -232,7 +232,7 @@ public final class FaultsTest {
         return c == 'E' || c == 'A' ? 'Q' : "!|&()+-:.".indexOf(c) >= 0 ? c : '?';
     }
 
-    private static int dueFault(String text) {
+    static int dueFault(String text) {
         Set<String> stacks = readings(Set.of("F"));
         int at = 0;
         while (at < text.length()) {
@@ -267,7 +267,7 @@ public final class FaultsTest {
         "1=1=>1=1=>1=1=>(1=1=>1=1=>1=1=>1=1)|!(0:1)=>1=1=>1=1=>1=1=>1=1=>1=1=>1=1=>1=1=>1=1=>1=1",
         "Ea.Aa.!Ea.Aa.!(Ea.Aa.!Ea.Aa.!(Ea.Aa.!Ea.Aa.a=1))", "2a-3b+4<=-5a+6-7b"};
 
-    private static String anyText(Random r) {
+    static String anyText(Random r) {
         StringBuilder text = new StringBuilder();
         if (r.nextInt(3) > 0) {
             text.append(SOUND[r.nextInt(SOUND.length)]);

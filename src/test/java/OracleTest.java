@@ -28,7 +28,7 @@ public final class OracleTest {
         abstract String go(String state, int letter);
     }
 
-    private static int formed;
+    static int formed;
 
     private static Auto form(List<Integer> vars, Rule rule) throws TooLarge {
         if (vars.size() > 4) {
@@ -327,7 +327,7 @@ public final class OracleTest {
         return out;
     }
 
-    private static Auto paired(Auto f, Auto g, int how) throws TooLarge {
+    static Auto paired(Auto f, Auto g, int how) throws TooLarge {
         TreeSet<Integer> both = new TreeSet<>(f.vars);
         both.addAll(g.vars);
         List<Integer> vars = new ArrayList<>(both);
@@ -439,7 +439,7 @@ public final class OracleTest {
         return parts;
     }
 
-    private static Tree tree(Random r, int depth, int most, int kinds) {
+    static Tree tree(Random r, int depth, int most, int kinds) {
         int pick = depth == 0 ? 0 : r.nextInt(9);
         if (pick < 2) {
             String sign = SIGNS[r.nextInt(SIGNS.length)];
@@ -476,7 +476,7 @@ public final class OracleTest {
     }
 
     /** The machine that is due, or null if it is too large; with it what was formed. */
-    private static Auto machine(Tree tree) {
+    static Auto machine(Tree tree) {
         formed = 0;
         try {
             return tree.make();
